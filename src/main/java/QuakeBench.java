@@ -656,9 +656,9 @@ public final class QuakeBench {
 
         /** The way to a place in whole metres. */
         int wayTo(int toX, int toY, int toZ) {
-            long a = 1000L * Math.abs(toX - x);
-            long b = 1000L * Math.abs(toY - y);
-            long c = 1000L * Math.abs(toZ);
+            long a = 1000L * (toX < x ? x - toX : toX - x);
+            long b = 1000L * (toY < y ? y - toY : toY - y);
+            long c = 1000L * toZ;
             long square = a * a + b * b + c * c;
             // Newton's rule falls to the root from every number above it, and the sum of the sides is one.
             long root = a + b + c;

@@ -21,6 +21,26 @@ final class Check {
         }
     }
 
+    /** The event is found, at this place, and began at this time. */
+    static void found(QuakeBench bench, int event, int... placeAndTime) {
+        for (int what = 0; what < placeAndTime.length; what++) {
+            due("event(" + event + ", " + what + ")", bench.event(event, what), placeAndTime[what]);
+        }
+    }
+
+    /** The picks from 0 on have these events. */
+    static void eventsOfPicks(QuakeBench bench, int... want) {
+        for (int pick = 0; pick < want.length; pick++) {
+            due("pick(" + pick + ", 4)", bench.pick(pick, 4), want[pick]);
+        }
+        due("count(1)", bench.count(1), want.length);
+    }
+
+    /** What is beyond low to high: one beyond each end, and the ends of int. */
+    static int[] beyond(int low, int high) {
+        return new int[] {low - 1, high + 1, Integer.MIN_VALUE, Integer.MAX_VALUE};
+    }
+
     /** The call must throw exactly this exception (no other of its kind below it) and leave the digest as it is. */
     static void refused(QuakeBench bench, String call, Class<? extends RuntimeException> want, Runnable run) {
         long before = bench.digest();

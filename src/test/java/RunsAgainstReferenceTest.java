@@ -125,8 +125,8 @@ public final class RunsAgainstReferenceTest {
     }
 
     private void picksAndEvents(int kind) {
-        int pick = around(0, bench.count(1) - 1);
-        int event = around(-1, bench.count(2) - 1);
+        int pick = around(0, reference.count(1) - 1);
+        int event = around(-1, reference.count(2) - 1);
         int what = around(0, 4);
         int weight = around(1, 4);
         if (kind < 7) {
@@ -173,8 +173,8 @@ public final class RunsAgainstReferenceTest {
     }
 
     private void seeking(int kind) {
-        int event = around(0, bench.count(2) - 1);
-        int pick = around(0, bench.count(1) - 1);
+        int event = around(0, reference.count(2) - 1);
+        int pick = around(0, reference.count(1) - 1);
         int what = around(0, 5);
         int x = around(0, 200);
         int y = around(0, 200);
@@ -199,8 +199,8 @@ public final class RunsAgainstReferenceTest {
     }
 
     private void magnitudesAndFamilies(int kind) {
-        int event = around(0, bench.count(2) - 1);
-        int pick = around(0, bench.count(1) - 1);
+        int event = around(0, reference.count(2) - 1);
+        int pick = around(0, reference.count(1) - 1);
         int near = below(2) == 0 ? around(0, 500) : below(150);
         int soon = below(2) == 0 ? around(0, 10000000) : below(300000);
         if (kind < 85) {
