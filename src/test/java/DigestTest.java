@@ -12,6 +12,7 @@ public final class DigestTest {
         numbersOfPicks();
         eventsThatAreNotFound();
         eventsThatAreFound();
+        eventsThatAreFoundBelow();
         magnitudeAndGapOfNone();
         wrapsAround();
         digestChangesNothing();
@@ -87,6 +88,16 @@ public final class DigestTest {
         Check.due("digest()", bench.digest(), digestOf(3, 3, 2, 1, 0, 6000, 3468, 60, 120, 0, 160, 120, 0, 100, 60, 0,
                 0, 0, 7666, 4, 1, 0, 1, 0, 11000, 4, 1, 1024, 2, 0, 11000, 4, 1, 0,
                 0, 3, 100, 120, 0, 1000, 2000, 39));
+    }
+
+    private static void eventsThatAreFoundBelow() {
+        QuakeBench bench = Benches.squareWithCentre();
+        Benches.quake(bench, 100, 100, 60, 1000);
+        // The ways are 60 km and the root of 50 * 50 + 60 * 60, which is 78.102 km.
+        Check.due("digest()", bench.digest(), digestOf(5, 5, 1, 1, 0, 6000, 3468,
+                50, 100, 0, 150, 100, 0, 100, 50, 0, 100, 150, 0, 100, 100, 0,
+                0, 0, 14017, 4, 0, 0, 1, 0, 14017, 4, 0, 0, 2, 0, 14017, 4, 0, 0, 3, 0, 14017, 4, 0, 0,
+                4, 0, 11000, 4, 0, 0, 5, 100, 100, 60, 1000, 1000, -1));
     }
 
     private static void magnitudeAndGapOfNone() {

@@ -7,6 +7,7 @@ public final class FamiliesTest {
         noFoundEvent();
         nearAtItsLimit();
         soonAtItsLimit();
+        differencesWithoutSign();
         sumOfAllThreeDifferences();
         leastLimits();
         greatestLimits();
@@ -73,6 +74,20 @@ public final class FamiliesTest {
         family(bench, 1, 500, 3000, 2);
         family(bench, 0, 500, 2999, 1);
         family(bench, 1, 500, 2999, 1);
+    }
+
+    /** "the difference of their times (without sign)", and of their places: the later number may be the lesser one. */
+    private static void differencesWithoutSign() {
+        QuakeBench bench = Benches.squareWithCentre();
+        Benches.quake(bench, 120, 120, 60, 9000);
+        Benches.quake(bench, 100, 100, 40, 1000);
+        families(bench, 60, 8000, 1);
+        families(bench, 60, 7999, 2);
+        families(bench, 59, 8000, 2);
+        Benches.quake(bench, 120, 120, 60, 17000);
+        families(bench, 60, 8000, 1);
+        families(bench, 60, 7999, 3);
+        families(bench, 59, 8000, 2);
     }
 
     private static void sumOfAllThreeDifferences() {
@@ -150,18 +165,24 @@ public final class FamiliesTest {
         }
     }
 
+    /** The one in the middle is lost, whether its number is the least, the middle or the greatest one. */
     private static void notByWayOfAnEventNotFound() {
-        QuakeBench bench = Benches.square();
-        Benches.quake(bench, 100, 100, 0, 1000);
-        Benches.quake(bench, 100, 120, 0, 1000);
-        Benches.quake(bench, 100, 140, 0, 1000);
-        families(bench, 20, 0, 1);
-        bench.setWeight(4, 4);
-        families(bench, 20, 0, 2);
-        family(bench, 0, 20, 0, 1);
-        family(bench, 2, 20, 0, 1);
-        families(bench, 40, 0, 1);
-        family(bench, 0, 40, 0, 2);
+        int[][] rows = {{120, 100, 140}, {100, 120, 140}, {100, 140, 120}};
+        for (int lost = 0; lost < 3; lost++) {
+            QuakeBench bench = Benches.square();
+            for (int y : rows[lost]) {
+                Benches.quake(bench, 100, y, 0, 1000);
+            }
+            int first = lost == 0 ? 1 : 0;
+            int last = lost == 2 ? 1 : 2;
+            family(bench, first, 20, 0, 3);
+            bench.setWeight(4 * lost, 4);
+            families(bench, 20, 0, 2);
+            family(bench, first, 20, 0, 1);
+            family(bench, last, 20, 0, 1);
+            families(bench, 40, 0, 1);
+            family(bench, last, 40, 0, 2);
+        }
     }
 
     private static void bothLimitsTogether() {

@@ -6,6 +6,7 @@ public final class FitTest {
     public static void main(String[] args) {
         misfitWithoutPicks();
         misfitOfOnePick();
+        misfitAfterALargerEvent();
         misfitCountsWeights();
         misfitOfFarTimes();
         misfitAtTheEdges();
@@ -49,6 +50,18 @@ public final class FitTest {
         bench.addEvent();
         bench.give(bench.addPick(0, true, 10000000), 0);
         Check.due("misfit(0, 200, 200, 60)", bench.misfit(0, 200, 200, 60), 0);
+    }
+
+    /** What was reckoned for a larger event leaves nothing behind for a smaller one. */
+    private static void misfitAfterALargerEvent() {
+        QuakeBench bench = Benches.spot(100, 200, 400, 800);
+        bench.addEvent();
+        bench.give(bench.addPick(0, false, 5000), 1);
+        bench.give(bench.addPick(1, false, 5001), 1);
+        bench.addEvent();
+        Check.due("misfit(0, 0, 0, 0) of four picks", bench.misfit(0, 0, 0, 0), 4 * 900);
+        Check.due("misfit(1, 0, 0, 0) of two picks", bench.misfit(1, 0, 0, 0), 4);
+        Check.due("misfit(2, 0, 0, 0) of none", bench.misfit(2, 0, 0, 0), 0);
     }
 
     private static void misfitCountsWeights() {

@@ -7,6 +7,7 @@ public final class GapTest {
         gapsOfASquare();
         bearingsBetweenTheAxes();
         bearingIsCutInEachQuarter();
+        bearingsNextToAnAxis();
         gapBeyondTheGreatestBearing();
         gapOfOneSide();
         stationAtThePlaceHasNone();
@@ -53,6 +54,18 @@ public final class GapTest {
         dueAround("bearings 0, 1333, 2000, 3000", 1333, 150, 100, 70, 160, 50, 100, 100, 50);
         dueAround("bearings 0, 1000, 2333, 3000", 1333, 150, 100, 100, 150, 40, 70, 100, 50);
         dueAround("bearings 0, 1000, 2000, 3333", 1333, 150, 100, 100, 150, 50, 100, 130, 40);
+    }
+
+    /** One km beside each axis, on both sides; 1000 * 1 / 51 is 19.6 and 1000 * 50 / 51 is 980.4. */
+    private static void bearingsNextToAnAxis() {
+        dueAround("bearings 19, 2000, 3000", 1981, 150, 101, 50, 100, 100, 50, 100, 100);
+        dueAround("bearings 980, 2000, 3000", 1980, 101, 150, 50, 100, 100, 50, 100, 100);
+        dueAround("bearings 1019, 3000, 0", 1981, 99, 150, 100, 50, 150, 100, 100, 100);
+        dueAround("bearings 1980, 3000, 0", 1980, 50, 101, 100, 50, 150, 100, 100, 100);
+        dueAround("bearings 2019, 0, 1000", 1981, 50, 99, 150, 100, 100, 150, 100, 100);
+        dueAround("bearings 2980, 0, 1000", 1980, 99, 50, 150, 100, 100, 150, 100, 100);
+        dueAround("bearings 3019, 1000, 2000", 1981, 101, 50, 100, 150, 50, 100, 100, 100);
+        dueAround("bearings 3980, 1000, 2000", 1980, 150, 99, 100, 150, 50, 100, 100, 100);
     }
 
     /** "and 4000 less the difference of the greatest and the least one". */

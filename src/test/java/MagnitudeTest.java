@@ -13,6 +13,7 @@ public final class MagnitudeTest {
         magnitudeWithoutAmplitudes();
         binaryDigits();
         wayIsCut();
+        wayJustBelowIsCut();
         wayKnowsTheDepth();
         wayOfNought();
         middleOfOddAndEvenNumbers();
@@ -110,6 +111,15 @@ public final class MagnitudeTest {
             bench.seek(0);
             Check.found(bench, 0, 100, 100, 0, 1000);
         }
+    }
+
+    private static void wayJustBelowIsCut() {
+        QuakeBench bench = Benches.squareWithCentre();
+        bench.addStation(133, 197);
+        Benches.quake(bench, 100, 100, 40, 1000);
+        bench.setAmplitude(5, 1);
+        Check.due("way(5, 100, 100, 40)", bench.way(5, 100, 100, 40), 109990);
+        Check.due("magnitude(0), 109990 m away", bench.magnitude(0), 3 + 10);
     }
 
     private static void wayKnowsTheDepth() {

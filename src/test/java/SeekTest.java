@@ -130,16 +130,27 @@ public final class SeekTest {
         }
     }
 
-    /** Each round looks round the best place of the one before it alone; here (102, 98, 2) would fit to the letter. */
+    /**
+     * Each round looks round the best place of the one before it alone, by its own step and no further; so the place
+     * that would fit to the letter is not always found.
+     */
     private static void roundsMayMissTheBestPlace() {
+        missed(new int[] {102, 98, 2}, 704, 102, 98, 7, 4962);
+        missed(new int[] {20, 65, 15}, 2056, 17, 64, 24, 4340);
+        missed(new int[] {34, 20, 15}, 5000, 37, 22, 3, 5671);
+        missed(new int[] {27, 20, 5}, 1304, 26, 18, 5, 4663);
+    }
+
+    private static void missed(int[] fits, long misfit, int... placeAndTime) {
         QuakeBench bench = wideNet();
         bench.addEvent();
         for (int station = 0; station < 7; station++) {
-            bench.give(bench.addPick(station, false, 5000 + bench.needs(station, 102, 98, 2, false)), 0);
+            int needs = bench.needs(station, fits[0], fits[1], fits[2], false);
+            bench.give(bench.addPick(station, false, 5000 + needs), 0);
         }
-        Check.due("misfit(0, 102, 98, 2)", bench.misfit(0, 102, 98, 2), 0);
-        Check.due("seek(0)", bench.seek(0), 704);
-        Check.found(bench, 0, 102, 98, 7, 4962);
+        Check.due("misfit of the place that fits", bench.misfit(0, fits[0], fits[1], fits[2]), 0);
+        Check.due("seek(0)", bench.seek(0), misfit);
+        Check.found(bench, 0, placeAndTime);
     }
 
     // ---- equal places
