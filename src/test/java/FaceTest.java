@@ -1,11 +1,14 @@
 import java.io.IOException;
 import java.lang.reflect.Constructor;
+import java.lang.reflect.Field;
 import java.lang.reflect.Method;
 import java.lang.reflect.Modifier;
 import java.nio.file.Files;
 import java.nio.file.Path;
+import java.util.ArrayList;
 import java.util.Arrays;
 import java.util.HashSet;
+import java.util.List;
 import java.util.Set;
 import java.util.TreeSet;
 import java.util.regex.Matcher;
@@ -22,6 +25,7 @@ public final class FaceTest {
 
     public static void main(String[] args) throws IOException {
         members();
+        sizes();
         String source = Files.readString(Path.of(System.getProperty("main.source", "src/main/java/QuakeBench.java")));
         language(source);
         Check.end();
@@ -102,6 +106,32 @@ public final class FaceTest {
                     Check.tell("a method inside is named " + method.getName());
                 }
             }
+        }
+    }
+
+    /** Rule 11: how many classes, fields and parameters there may be. */
+    private static void sizes() {
+        List<Class<?>> classes = new ArrayList<>(Arrays.asList(QuakeBench.class.getDeclaredClasses()));
+        classes.add(QuakeBench.class);
+        atMost(12, classes.size(), "classes");
+        for (Class<?> one : classes) {
+            String name = one.getSimpleName();
+            atMost(20, Arrays.stream(one.getDeclaredFields()).filter(f -> !Modifier.isStatic(f.getModifiers())).count(),
+                    "fields of " + name);
+            for (Field field : one.getDeclaredFields()) {
+                if (Modifier.isStatic(field.getModifiers()) && !Modifier.isFinal(field.getModifiers())) {
+                    Check.tell("a static field that isn't final: " + name + "." + field.getName());
+                }
+            }
+            for (Method method : one.getDeclaredMethods()) {
+                atMost(7, method.getParameterCount(), "parameters of " + name + "." + method.getName());
+            }
+        }
+    }
+
+    private static void atMost(int most, long got, String what) {
+        if (got > most) {
+            Check.tell(got + " " + what + ", at most are " + most);
         }
     }
 
