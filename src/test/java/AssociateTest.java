@@ -31,6 +31,7 @@ public final class AssociateTest {
         goesThroughByNumberAtTheSameTime();
         joinsAtTheLimit();
         joinsTheLeastDifference();
+        joinsTheOneNearerByOne();
         joinsTheSmallestNumberOfEqualOnes();
         joinsTheNextOneIfTheNearestHasTheWave();
         joinsWithTheOtherWave();
@@ -336,6 +337,15 @@ public final class AssociateTest {
         bench.addPick(1, true, 100999 + S_NEEDS);
         associate(bench, 2);
         Check.eventsOfPicks(bench, 0, 0, 0, 0, 1, 1, 1, 1, 1, 0);
+    }
+
+    /** A difference less by 1 ms is less, whichever event comes first. */
+    private static void joinsTheOneNearerByOne() {
+        QuakeBench bench = foundAt(100000, 102001);
+        bench.addPick(0, true, 101000 + S_NEEDS);
+        bench.addPick(1, true, 101001 + S_NEEDS);
+        associate(bench, 2);
+        Check.eventsOfPicks(bench, 0, 0, 0, 0, 1, 1, 1, 1, 0, 1);
     }
 
     /** "of several to the one with the smallest number". */

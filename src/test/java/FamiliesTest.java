@@ -21,6 +21,7 @@ public final class FamiliesTest {
         familyOfNoEvent();
         nearestOfNone();
         nearestKnowsAllThree();
+        nearestByOne();
         nearestOfEqualOnes();
         nearestIsFound();
         nearestAtTheEdges();
@@ -258,14 +259,23 @@ public final class FamiliesTest {
         Benches.quake(bench, 120, 100, 0, 1000);
         Benches.quake(bench, 100, 120, 0, 1000);
         Benches.quake(bench, 100, 100, 40, 1000);
-        nearest(bench, 109, 100, 0, 0);
+        nearest(bench, 110, 100, 0, 0);
         nearest(bench, 111, 100, 0, 1);
-        nearest(bench, 100, 109, 0, 0);
+        nearest(bench, 100, 110, 0, 0);
         nearest(bench, 100, 111, 0, 2);
-        nearest(bench, 100, 100, 19, 0);
+        nearest(bench, 100, 100, 20, 0);
         nearest(bench, 100, 100, 21, 3);
         nearest(bench, 0, 0, 60, 3);
         nearest(bench, 200, 100, 0, 1);
+    }
+
+    /** A sum less by 1 km is less, whichever event comes first. */
+    private static void nearestByOne() {
+        QuakeBench bench = Benches.squareWithCentre();
+        Benches.quake(bench, 100, 100, 0, 1000);
+        Benches.quake(bench, 100, 100, 15, 1000);
+        nearest(bench, 100, 100, 7, 0);
+        nearest(bench, 100, 100, 8, 1);
     }
 
     /** "of several the one with the smallest number". */

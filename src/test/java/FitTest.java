@@ -27,6 +27,7 @@ public final class FitTest {
         spreadOfNoneLate();
         spreadOfOneFarOff();
         spreadOfNoEvent();
+        fitOffTheDiagonal();
         Check.end();
     }
 
@@ -277,5 +278,27 @@ public final class FitTest {
         for (int beyond : Check.beyond(0, 1)) {
             Check.refused(bench, "spread(" + beyond + ")", Check.OUTSIDE, () -> bench.spread(beyond));
         }
+    }
+
+    // ---- all of them
+
+    /** The x, the y and the z of the place differ, so that none can stand for another. */
+    private static void fitOffTheDiagonal() {
+        int[][] places = {{30, 30}, {170, 30}, {30, 170}, {170, 170}, {90, 110}, {0, 100}, {200, 90}};
+        QuakeBench bench = new QuakeBench();
+        for (int[] place : places) {
+            bench.addStation(place[0], place[1]);
+        }
+        Benches.quake(bench, 160, 40, 20, 1000);
+        // From there to (30, 30) are 131909 m, to (170, 30) 24494 m; S needs 38036 ms and 7062 ms for them.
+        bench.addPick(0, true, 1000 + 38036 + 7);
+        bench.addPick(1, true, 1000 + 7062 - 9);
+        Check.due("associate()", bench.associate(), 2);
+        Check.due("residual(0)", bench.residual(0), 0);
+        Check.due("residual(7)", bench.residual(7), 7);
+        Check.due("residual(8)", bench.residual(8), -9);
+        Check.due("worst(0)", bench.worst(0), 8);
+        Check.dueDouble("spread(0)", bench.spread(0), 64 / 36.0);
+        Check.due("misfit(0, 160, 40, 20)", bench.misfit(0, 160, 40, 20), 64);
     }
 }

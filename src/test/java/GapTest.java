@@ -8,8 +8,10 @@ public final class GapTest {
         bearingsBetweenTheAxes();
         bearingIsCutInEachQuarter();
         bearingsNextToAnAxis();
+        bearingsOneKilometreAway();
         gapBeyondTheGreatestBearing();
         gapOfOneSide();
+        gapOffTheDiagonal();
         stationAtThePlaceHasNone();
         noBearing();
         oneBearing();
@@ -68,6 +70,18 @@ public final class GapTest {
         dueAround("bearings 3980, 1000, 2000", 1980, 150, 99, 100, 150, 50, 100, 100, 100);
     }
 
+    /** The least sum of differences that makes a bearing: 1 along each axis, 2 between two of them. */
+    private static void bearingsOneKilometreAway() {
+        dueAround("bearings 0 at 1 km, 2000, 3000", 2000, 101, 100, 50, 100, 100, 50, 100, 100);
+        dueAround("bearings 1000 at 1 km, 3000, 0", 2000, 100, 101, 100, 50, 150, 100, 100, 100);
+        dueAround("bearings 2000 at 1 km, 0, 1000", 2000, 99, 100, 150, 100, 100, 150, 100, 100);
+        dueAround("bearings 3000 at 1 km, 0, 1000", 2000, 100, 99, 150, 100, 100, 150, 100, 100);
+        dueAround("bearings 500 at 1 km each, 2000, 3000", 1500, 101, 101, 50, 100, 100, 50, 100, 100);
+        dueAround("bearings 1500 at 1 km each, 3000, 0", 1500, 99, 101, 100, 50, 150, 100, 100, 100);
+        dueAround("bearings 2500 at 1 km each, 0, 1000", 1500, 99, 99, 150, 100, 100, 150, 100, 100);
+        dueAround("bearings 3500 at 1 km each, 1000, 2000", 1500, 101, 99, 100, 150, 50, 100, 100, 100);
+    }
+
     /** "and 4000 less the difference of the greatest and the least one". */
     private static void gapBeyondTheGreatestBearing() {
         dueAround("bearings 1333, 1750, 2333, 2666", 4000 - (2666 - 1333), 80, 140, 40, 120, 40, 70, 70, 40, 100, 100);
@@ -77,6 +91,15 @@ public final class GapTest {
     private static void gapOfOneSide() {
         QuakeBench bench = around(0, 0, 100, 0, 0, 100, 100, 100, 30, 60);
         Check.due("gap(0), bearings 0, 500, 666, 1000", bench.gap(0), 3000);
+    }
+
+    /** The x and the y of the place differ: (80, 20), (-20, 60), (-60, -30) and (40, -80) from (60, 140). */
+    private static void gapOffTheDiagonal() {
+        QuakeBench bench = around(60, 140, 140, 160, 40, 200, 0, 110, 100, 60, 60, 140);
+        Check.due("gap(0), bearings 200, 1250, 2333, 3333", bench.gap(0), 1083);
+        // (20, 80), (60, -20), (-30, -60) and (-80, 40) from (140, 60), the other way about.
+        QuakeBench other = around(140, 60, 160, 140, 200, 40, 110, 0, 60, 100, 140, 60);
+        Check.due("gap(0), bearings 800, 1666, 2666, 3750", other.gap(0), 1084);
     }
 
     /** "a station at (x, y) itself has none": a bearing of 0 for it would part the gap of 1750 there. */

@@ -17,6 +17,7 @@ public final class SeekTest {
         leastXOfEqualPlaces();
         leastOfAllEqualPlaces();
         eachRoundByItself();
+        misfitLessByOne();
         beginOfAnOddNumber();
         beginOfAnEvenNumber();
         beginCountsWeights();
@@ -206,6 +207,23 @@ public final class SeekTest {
         Check.due("misfit(0, 50, 50, 0)", bench.misfit(0, 50, 50, 0), 0);
         Check.due("seek(0)", bench.seek(0), 0);
         Check.found(bench, 0, 50, 50, 0, 1000);
+    }
+
+    /**
+     * P needs 235 and S 407 from (1, 1, 0), which comes first in the last round, but 288 and 499 from (1, 1, 1): the
+     * picks of P fit both places, that of S is 20 late for the one and 19 early for the other.
+     */
+    private static void misfitLessByOne() {
+        QuakeBench bench = Benches.spot(0, 0);
+        bench.addStation(0, 0);
+        bench.give(bench.addPick(2, true, 192), 0);
+        for (int pick = 0; pick < 3; pick++) {
+            bench.setWeight(pick, 1);
+        }
+        Check.due("misfit(0, 1, 1, 0)", bench.misfit(0, 1, 1, 0), 20);
+        Check.due("misfit(0, 1, 1, 1)", bench.misfit(0, 1, 1, 1), 19);
+        Check.due("seek(0)", bench.seek(0), 19);
+        Check.found(bench, 0, 1, 1, 1, -288);
     }
 
     // ---- the begin

@@ -13,6 +13,7 @@ public final class WavesTest {
         noWayAtAll();
         wayAlongEachAxis();
         wayIsCut();
+        wayOneSquareMetreBelowTheNext();
         greatestWay();
         everyWayIsTheGreatestRoot();
         wayKnowsNoDelayAndNoSpeed();
@@ -63,6 +64,16 @@ public final class WavesTest {
         Check.due("way(1, 199, 200, 60)", bench.way(1, 199, 200, 60), 60008);
         // The root of 2 * 70 * 70 is 98.99494.. km: the next whole number of metres is nearer, and too great.
         Check.due("way(0, 70, 70, 0)", bench.way(0, 70, 70, 0), 98994);
+    }
+
+    /** 90 * 90 + 194 * 194 + 46 * 46 is 47852, as for the others; 218751 * 218751 is 47852000001. */
+    private static void wayOneSquareMetreBelowTheNext() {
+        QuakeBench bench = corners();
+        int[][] places = {{90, 194, 46}, {94, 190, 54}, {110, 186, 34}, {130, 174, 26}, {142, 162, 38}};
+        for (int[] p : places) {
+            Check.due("way to " + p[0] + ", " + p[1] + ", " + p[2], bench.way(0, p[0], p[1], p[2]), 218750);
+            Check.due("way to " + p[1] + ", " + p[0] + ", " + p[2], bench.way(0, p[1], p[0], p[2]), 218750);
+        }
     }
 
     private static void greatestWay() {
